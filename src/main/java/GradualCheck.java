@@ -368,8 +368,8 @@ public final class GradualCheck {
 
         private int add(int a, int b, int c, int d, int e, int f) {
             int start = rows * WIDTH;
-            if (start + WIDTH > cells.length) {
-                cells = Arrays.copyOf(cells, Math.min(2 * cells.length, MOST_ROWS * WIDTH));
+            if (start + WIDTH > cells.length && rows < MOST_ROWS) {
+                cells = Arrays.copyOf(cells, 2 * cells.length);
             }
             if (start < 0 || start + WIDTH > cells.length) {
                 return NONE;
@@ -443,8 +443,11 @@ public final class GradualCheck {
             if (right >= 0) {
                 high = 1 + Math.max(high, trees.get(right, HIGH));
             }
-            put(buckets, bucket, trees.add(head, left, right, size, high, newest));
-            return at(buckets, bucket);
+            int made = trees.add(head, left, right, size, high, newest);
+            if (made >= 0) {
+                put(buckets, bucket, made);
+            }
+            return made;
         }
 
         private static int bucketOf(int head, int left, int right) {
@@ -815,15 +818,15 @@ public final class GradualCheck {
 
         /* The words of the language, five bits a letter, as their tokens are numbered. */
         private static final int[] WORDS = {
-            (6 << 10) + (21 << 5) + 14,
-            (12 << 10) + (5 << 5) + 20,
-            (18 << 10) + (5 << 5) + 3,
-            (9 << 5) + 6,
-            (1 << 5) + 19,
-            (9 << 10) + (14 << 5) + 20,
-            (2 << 15) + (15 << 10) + (15 << 5) + 12,
-            (20 << 15) + (18 << 10) + (21 << 5) + 5,
-            (6 << 20) + (1 << 15) + (12 << 10) + (19 << 5) + 5
+            (6 << 10) + (21 << 5) + 14, // fun
+            (12 << 10) + (5 << 5) + 20, // let
+            (18 << 10) + (5 << 5) + 3, // rec
+            (9 << 5) + 6, // if
+            (1 << 5) + 19, // as
+            (9 << 10) + (14 << 5) + 20, // int
+            (2 << 15) + (15 << 10) + (15 << 5) + 12, // bool
+            (20 << 15) + (18 << 10) + (21 << 5) + 5, // true
+            (6 << 20) + (1 << 15) + (12 << 10) + (19 << 5) + 5 // false
         };
 
         private final int[] bytes;
@@ -855,7 +858,7 @@ public final class GradualCheck {
                 } else if (sign != 32) {
                     addToken(sign, i, 0, 1);
                 }
-                i = end;
+                i = Math.max(i + 1, end);
             }
             addToken(END, n, 0, 0);
         }
