@@ -27,8 +27,10 @@ public final class CastTest {
         row(p, 2, 3, 4);
         row(p, 3, 0, 1);
         row(p, 4, 0, 3);
-        Probe.due("cast 5", p.x.cast(5, 0), -1);
-        Probe.due("cast -1", p.x.cast(-1, 0), -1);
+        for (int what = 0; what < 7; what++) {
+            Probe.due("cast 5 " + what, p.x.cast(5, what), -1);
+            Probe.due("cast -1 " + what, p.x.cast(-1, what), -1);
+        }
         Probe.due("what 7", p.x.cast(0, 7), -1);
         Probe.due("what -1", p.x.cast(0, -1), -1);
         Probe.due("greatest", p.x.cast(2147483647, 2147483647), -1);

@@ -10,6 +10,8 @@ public final class CountTest {
         Probe p = new Probe();
         p.say("((fun x ? (+ x 1)) 2)");
         counts(p, "a call", 6, 1, 2, 0, 0, 0, 0, 4, 2);
+        p.say("(let f (int > int) (fun x int x) (f (if (< 1 2) 3 4)))");
+        counts(p, "all typed", 11, 2, 0, 0, 0, 0, 0, 0, 11);
         p.say("(if true (fun x int x) (fun x ? 1))");
         counts(p, "an if", 6, 2, 1, 0, 0, 0, 0, 4, 4);
         p.x.loose(0, true);

@@ -3,6 +3,7 @@ public final class NewObjectTest {
     public static void main(String[] args) {
         Probe p = new Probe();
         Probe.due("nodes", p.x.count(0), 1);
+        Probe.due("typed nodes", p.x.count(8), 1);
         Probe.due("the tape is empty", p.x.count(5), 0);
         for (int what : new int[] {1, 2, 3, 4, 6, 7}) {
             Probe.due("count " + what, p.x.count(what), 0);

@@ -120,6 +120,8 @@ public final class ProgramTest {
         due(times("(- 1 ", 20) + "(- 1 1)" + times(")", 20), -6100);
         due(times("(- 1 ", 19) + "(as 1 int)" + times(")", 19), 40);
         due(times("(- 1 ", 19) + "(as 1(int > int))" + times(")", 19), -6000 - (19 * 5 + 5));
+        due(times("(- 1 ", 17) + "(fun x(?>(?>?))1)" + times(")", 17), -9032);
+        due(times("(- 1 ", 18) + "(fun x(?>(?>?))1)" + times(")", 18), -6000 - (18 * 5 + 9));
         due(times("(- 1 ", 18) + "(as 1((int > int) > int))" + times(")", 18), -6000 - (18 * 5 + 6));
         due(times("(- 1 ", 14) + "(as 1 ((((((? > ?) > ?) > ?) > ?) > ?) > ?))" + times(")", 14),
             -6000 - (14 * 5 + 11));
@@ -171,6 +173,13 @@ public final class ProgramTest {
         Probe.due("the tape stays", p.x.count(5), 20);
         Probe.due("the first bytes alone", p.x.program(7), 3);
         Probe.due("empty then", p.x.count(5), 0);
+        p.feed("12345");
+        Probe.due("a number ends with them", p.x.program(4), 1);
+        Probe.due("it is", p.x.node(0, 2), 1234);
+        p.feed("true(true");
+        Probe.due("a word ends with them", p.x.program(4), 1);
+        p.feed("trues");
+        Probe.due("a word ends with them", p.x.program(4), 1);
         String long240 = "1" + times(" ", 239);
         p.feed(long240 + times(" ", 60));
         Probe.due("241", p.x.program(241), -1);

@@ -17,6 +17,11 @@ public final class TextTest {
         p.say("(if(as true ?)(as false ?)((as 1 ?)9999))");
         Probe.due("truths", p.text(7, 0), "(if (as true ?) (as false ?) ((as 1 ?) 9999))");
         Probe.due("truths with casts", p.text(8, 0), "(if {4}(as {0}true ?) (as {1}false ?) ({3}(as {2}1 ?) 9999))");
+        for (String number : new String[] {"0", "1", "9", "10", "11", "99", "100", "101", "999", "1000", "1010"}) {
+            Probe numbers = new Probe();
+            numbers.say(number);
+            Probe.due("a number", numbers.text(7, 0), number);
+        }
         p.say("(fun abcdef (? > (bool > ?)) abcdef)");
         Probe.due("a long name", p.text(7, 0), "(fun abcdef (? > (bool > ?)) abcdef)");
     }

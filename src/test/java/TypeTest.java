@@ -31,6 +31,8 @@ public final class TypeTest {
         fault("true", -1000);
         fault(")", -1000);
         fault("int int", -1004);
+        fault("? ?", -1002);
+        fault("(? > ?)?", -1007);
         fault("(int)", -1004);
         fault("(int > )", -1007);
         fault("(int > int", -1010);
@@ -55,8 +57,10 @@ public final class TypeTest {
         Probe.due("101", p.x.type(101), -1);
         Probe.due("greatest", p.x.type(2147483647), -1);
         Probe.due("the first bytes alone", p.x.type(3), 0);
+        p.feed("intx");
+        Probe.due("a word ends with them", p.x.type(3), 1);
         p.feed("bool" + " ".repeat(116));
-        Probe.due("100", p.x.type(100), 1);
+        Probe.due("100", p.x.type(100), 2);
     }
 
     private static void twelve() {
