@@ -49,7 +49,26 @@ public final class LooseTest {
         Probe.due("the second back", p.x.loose(1, false), 3);
     }
 
+    private static void allTwelve() {
+        Probe p = new Probe();
+        p.say("(let a int 1".repeat(12) + " a" + ")".repeat(12));
+        for (int i = 0; i < 12; i++) {
+            Probe.due("it is so", p.x.loose(i, false), -2);
+            Probe.due("casts then", p.x.loose(i, true), i + 1);
+            Probe.due("it is so then", p.x.loose(i, true), -2);
+            Probe.due("bits", p.x.count(6), (2 << i) - 1);
+        }
+        Probe.due("a thirteenth", p.x.loose(12, true), -1);
+        Probe.due("all bits", p.x.count(6), 4095);
+        for (int i = 0; i < 12; i++) {
+            Probe.due("casts then", p.x.loose(i, false), 11 - i);
+            Probe.due("it is so then", p.x.loose(i, false), -2);
+            Probe.due("bits", p.x.count(6), 4095 & -(2 << i));
+        }
+    }
+
     public static void main(String[] args) {
+        allTwelve();
         toAndFro();
         blameGoes();
         canNotBe();

@@ -22,7 +22,38 @@ public final class SetsTest {
         Probe.due("it runs as before", p.run(0), "1 1 0");
     }
 
+    /** Sets of the first four alone, however many annotations there are. */
+    private static void firstFour() {
+        for (int n = 0; n <= 12; n++) {
+            Probe p = new Probe();
+            p.say("(let a int 1".repeat(n) + " 1" + ")".repeat(n));
+            int few = Math.min(4, n);
+            Probe.due(n + " annotations: sets", p.x.sets(0), 1 << few);
+            Probe.due(n + " annotations: the least number of casts", p.x.sets(5), 0);
+            Probe.due(n + " annotations: the greatest", p.x.sets(6), few);
+            for (int i = 0; i < n; i++) {
+                p.x.loose(i, true);
+            }
+            Probe.due(n + " loose ones: sets", p.x.sets(0), 1 << few);
+            Probe.due(n + " loose ones: the least number of casts", p.x.sets(5), 0);
+            Probe.due(n + " loose ones: the greatest", p.x.sets(6), few);
+            Probe.due(n + " loose ones: they stay", p.x.count(6), (1 << n) - 1);
+            Probe.due(n + " loose ones: casts stay", p.x.count(2), n);
+        }
+    }
+
+    /** Values that are unlike: numbers and truths by themselves, functions as one; those of sets that end in blame not. */
+    private static void unlikeValues() {
+        due("(let x int (as true ?) x)", 4, 2, 2, 0, 1, 1, 2);
+        due("(fun x ? x)", 2, 2, 0, 0, 1, 0, 0);
+        due("(if true (fun x int 1) (fun x int 2))", 4, 4, 0, 0, 1, 0, 1);
+        due("true", 1, 1, 0, 0, 1, 0, 0);
+        due("(- 0 1)", 1, 1, 0, 0, 1, 0, 0);
+    }
+
     public static void main(String[] args) {
+        firstFour();
+        unlikeValues();
         due("5", 1, 1, 0, 0, 1, 0, 0);
         due("(let x int 1 (+ x 1))", 2, 2, 0, 0, 1, 0, 2);
         due("(let x ? true (+ x 1))", 2, 0, 2, 0, 0, 2, 2);
