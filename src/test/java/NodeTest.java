@@ -55,6 +55,23 @@ public final class NodeTest {
         column(p, 5, 1, 1);
     }
 
+    /** A cast deep in any one of a node's parts, or on it, leaves the node untyped. */
+    private static void typedInAllParts() {
+        String not = "(let x ? 2 3)";
+        String[] untyped = {"(if (< 1 #) 1 2)", "(if true # 2)", "(if true 1 #)", "(+ # 1)", "(+ 1 #)", "(= 1 #)",
+            "(let y int # 1)", "(let y int 1 #)", "(as # int)", "((fun y int y) #)", "((fun y int #) 1)",
+            "(rec f (int > int) (fun y int #))", "(fun y int #)"};
+        for (String term : untyped) {
+            Probe p = new Probe();
+            p.say(term.replace("#", not));
+            Probe.due(term + " with a cast deep in it", p.x.node(0, 5), 0);
+            Probe.due(term + ": casts", p.x.count(2), 1);
+            p.say(term.replace("#", "5"));
+            Probe.due(term + " without", p.x.node(0, 5), 1);
+            Probe.due(term + ": all are typed", p.x.count(8), p.x.count(0));
+        }
+    }
+
     private static void wrong() {
         Probe p = new Probe();
         p.say("(+ 1 2)");
@@ -70,6 +87,7 @@ public final class NodeTest {
         allKinds();
         truthsAndNames();
         castsAndTyped();
+        typedInAllParts();
         wrong();
         Probe.end();
     }

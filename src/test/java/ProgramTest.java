@@ -201,6 +201,13 @@ public final class ProgramTest {
         Probe.due("another", p.say("(as 2 int)"), 2);
         Probe.due("nothing is loose", p.x.count(6), 0);
         Probe.due("its value", p.run(0), "1 2 0");
+        for (int i = 3; i < 6; i++) {
+            Probe.due("one more", p.say("(as " + i + " int)"), 2);
+            Probe.due("nothing is loose", p.x.count(6), 0);
+            Probe.due("no casts", p.x.count(2), 0);
+            Probe.due("its value", p.run(0), "1 " + i + " 0");
+            p.x.loose(0, true);
+        }
     }
 
     public static void main(String[] args) {

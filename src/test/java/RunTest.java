@@ -48,6 +48,45 @@ public final class RunTest {
         due("((rec f ? (fun n ? (if (= n 0) true (f (- n 1))))) 3)", 0, 2, 1);
     }
 
+    /** The greatest size is that of what a value bears, where no frame has one so great. */
+    private static void borneByValues() {
+        due("(as (as (fun x int x) (? > int)) (? > ?))", 0, 3, 2, 0, 4, 1, 1, 5, 2, 1);
+        due("(as (as (fun x int x) (? > int)) (? > ?))", 1, 3, 2, 0, 5, 2, 2, 5, 2, 0);
+        due("(let f (? > int) (fun x int x) (as f (? > ?)))", 0, 3, 1, 0, 7, 2, 1, 5, 2, 0);
+        due("(let f (? > int) (fun x int x) (as f (? > ?)))", 2, 3, 1, 0, 5, 1, 0, 0, 0, 0);
+        due("((fun f (? > ?) 1) (as (fun x int x) (? > int)))", 0, 1, 1, 0, 8, 2, 1, 5, 2, 1);
+        due("(let f (? > int) (fun x int x) ((fun g (? > ?) 1) f))", 0, 1, 1, 0, 11, 2, 1, 5, 2, 0);
+    }
+
+    /** Names are what they were where the part stands, whatever was called ahead of it. */
+    private static void namesBehindCalls() {
+        String let = "(let f (int > int) (fun y int y) (let x int 1 #))";
+        for (int mode = 0; mode < 3; mode++) {
+            due(let.replace("#", "(+ (f 5) x)"), mode, 1, 6);
+            due(let.replace("#", "(if (= (f 5) 5) x 0)"), mode, 1, 1);
+            due(let.replace("#", "(if (= (f 5) 4) 0 (+ x x))"), mode, 1, 2);
+            due(let.replace("#", "(let z int (f 7) (- z x))"), mode, 1, 6);
+            due(let.replace("#", "((if (= (f 0) 0) f f) x)"), mode, 1, 1);
+            due(let.replace("#", "(f (+ (f 3) x))"), mode, 1, 4);
+            due(let.replace("#", "((fun x int (+ (f 8) x)) 3)"), mode, 1, 11);
+        }
+    }
+
+    /** What a value bears stays with it: the next one bears nothing of it. */
+    private static void nothingBorneOn() {
+        due("(let f ? (fun x int x) (as 1 ?))", 0, 1, 1, 0, 7, 2, 1, 6, 2, 0);
+        due("(let f ? true (as (as 2 ?) int))", 0, 1, 2);
+        due("(let f ? true (as (as 2 ?) int))", 1, 1, 2);
+        due("(let f ? true (let g ? (fun x int x) (as (+ 1 2) ?)))", 0, 1, 3);
+        due("(let f ? 1 (if (= f 1) (as (fun x int x) ?) 3))", 0, 3, 7);
+    }
+
+    /** Functions that bear what is up to ? ahead and idle behind. */
+    private static void upAhead() {
+        due("((as (fun x ? 1) (int > int)) 5)", 0, 1, 1, 0, 9, 2, 1, 4, 2, 0);
+        due("((as (fun g (? > int) 1) ((int > int) > int)) (fun y int y))", 0, 1, 1, 0, 9, 2, 1, 6, 3, 0);
+    }
+
     private static void blame() {
         due("(+ 1 (as true ?))", 0, 4, 1, 1, 6, 2, 1, 2, 1, 1);
         due("(+ 1 (as true ?))", 1, 4, 1, 1, 7, 3, 2, 2, 1, 0);
@@ -110,6 +149,10 @@ public final class RunTest {
     public static void main(String[] args) {
         values();
         castsOnTheWay();
+        borneByValues();
+        namesBehindCalls();
+        nothingBorneOn();
+        upAhead();
         blame();
         stuck();
         stopped();

@@ -93,6 +93,17 @@ public final class StepsTest {
         }
     }
 
+    /** A loose as within one that is int: joined that takes 100 steps, piled 101; tries looks at joined casts alone. */
+    private static void joinedInTries() {
+        Probe p = of(taking(4, 4, 4));
+        Probe.due("loose", p.x.loose(2, true), 2);
+        Probe.due("joined", p.x.run(0, 3), 100);
+        Probe.due("piled", p.x.run(1, 3), 101);
+        Probe.due("it ends now", p.x.tries(3, 1), 9);
+        Probe.due("so do both, if that one is int", p.x.tries(2, 1), 9);
+        Probe.due("sets look at joined ones, too", p.x.sets(1), 4);
+    }
+
     /** Sets of the first four: rec, fun and two as; either as, or both, being loose takes one step more. */
     private static void hundredOfSets() {
         int[][] want = {{98, 4}, {99, 4}, {100, 1}, {101, 0}, {102, 0}};
@@ -127,6 +138,7 @@ public final class StepsTest {
         fifteenHundred();
         blameAtTheEnd();
         hundredOfTries();
+        joinedInTries();
         hundredOfSets();
         stepsOfTrace();
         Probe.end();
