@@ -6,7 +6,21 @@ public final class CastTest {
         }
     }
 
+    /** All three parts of if bear casts, numbered from the left. */
+    private static void ofIf() {
+        Probe p = new Probe();
+        p.say("(if (as true ?) (fun x int (as x ?)) (fun y ? 1))");
+        Probe.due("casts of if", p.x.count(2), 5);
+        row(p, 2, 0, 1);
+        row(p, 3, 0, 3);
+        row(p, 4, 0, 6);
+        Probe.due("of the first", p.text(3, 2) + " to " + p.text(4, 2), "? to bool");
+        Probe.due("of the second", p.text(3, 3) + " to " + p.text(4, 3), "(int > ?) to (? > ?)");
+        Probe.due("of the third", p.text(3, 4) + " to " + p.text(4, 4), "(? > int) to (? > ?)");
+    }
+
     public static void main(String[] args) {
+        ofIf();
         Probe p = new Probe();
         p.say("(as (as (fun x int x) (? > int)) ?)");
         Probe.due("casts", p.x.count(2), 2);

@@ -87,6 +87,43 @@ public final class RunTest {
         due("((as (fun g (? > int) 1) ((int > int) > int)) (fun y int y))", 0, 1, 1, 0, 9, 2, 1, 6, 3, 0);
     }
 
+    /** A value that a name is bears what it bore as it was given, to functions and by let. */
+    private static void borneByNames() {
+        String call = "((fun x ? (+ x 1)) true)";
+        due(call, 0, 4, 0, 1, 9, 2, 1, 2, 1, 0);
+        due(call, 1, 4, 0, 1, 9, 2, 1, 2, 1, 0);
+        due(call, 2, 5, 2, 0, 10, 1, 0, 0, 0, 0);
+        String let = "(let x ? true (+ x 1))";
+        due(let, 0, 4, 0, 1, 7, 2, 1, 2, 1, 0);
+        due(let, 1, 4, 0, 1, 7, 2, 1, 2, 1, 0);
+        due(let, 2, 5, 2, 0, 8, 1, 0, 0, 0, 0);
+        due("((fun x ? (+ x 1)) 2)", 0, 1, 3, 0, 12, 2, 1, 2, 1, 0);
+    }
+
+    /** What comes to be IDLE is not borne: the call puts no frame then. */
+    private static void idleIsNotBorne() {
+        String term = "((as (as (fun x int x) ?) (int > int)) 5)";
+        due(term, 0, 1, 5, 0, 9, 2, 1, 6, 2, 1);
+        due(term, 1, 1, 5, 0, 10, 3, 2, 6, 2, 0);
+    }
+
+    /** Casts count where they are the most, though there are more frames at another time. */
+    private static void mostCastsNotWithMostFrames() {
+        String term = "(let x int (as (as 1 ?) int) (+ 1 (+ 1 (+ 1 (+ 1 1)))))";
+        due(term, 0, 1, 5, 0, 23, 4, 1, 2, 1, 1);
+        due(term, 1, 1, 5, 0, 24, 4, 2, 2, 1, 0);
+    }
+
+    /** A coercion in a frame counts as it lies there: joined, be it smaller or greater than what was put. */
+    private static void sizeAsItLies() {
+        String smaller = "(+ 1 (as (fun x int x) ?))";
+        due(smaller, 0, 4, 1, 1, 6, 2, 1, 2, 1, 1);
+        due(smaller, 1, 4, 1, 1, 7, 3, 2, 6, 2, 0);
+        String greater = "(as (as (let y int (as true ?) (fun x int x)) (? > int)) (? > ?))";
+        due(greater, 0, 4, 1, 1, 6, 3, 2, 5, 2, 2);
+        due(greater, 1, 4, 1, 1, 7, 5, 4, 4, 2, 0);
+    }
+
     private static void blame() {
         due("(+ 1 (as true ?))", 0, 4, 1, 1, 6, 2, 1, 2, 1, 1);
         due("(+ 1 (as true ?))", 1, 4, 1, 1, 7, 3, 2, 2, 1, 0);
@@ -153,6 +190,10 @@ public final class RunTest {
         namesBehindCalls();
         nothingBorneOn();
         upAhead();
+        borneByNames();
+        idleIsNotBorne();
+        mostCastsNotWithMostFrames();
+        sizeAsItLies();
         blame();
         stuck();
         stopped();

@@ -57,6 +57,29 @@ public final class ThenTest {
         due("[[Xb2+i n] n]", "((bool > int) > int)", "?", "((int > int) > int)");
     }
 
+    private static int cast(Probe p, String from, String to, int label) {
+        return p.x.coerce(p.lay(from), p.lay(to), label);
+    }
+
+    /** Blame stays what it is, whatever is ahead of it or behind. */
+    private static void blameStays() {
+        Probe p = new Probe();
+        int first = p.x.then(cast(p, "int", "?", 1), cast(p, "?", "bool", 2));
+        int second = p.x.then(cast(p, "bool", "?", 3), cast(p, "?", "int", 4));
+        Probe.due("X then X: the first", p.text(6, p.x.then(first, second)), "Xi2+b");
+        Probe.due("X then X, turned round", p.text(6, p.x.then(second, first)), "Xb4+i");
+        Probe q = new Probe();
+        int ahead = cast(q, "(int > int)", "(? > int)", 5);
+        int blame = q.x.then(cast(q, "(? > int)", "?", 6), cast(q, "?", "bool", 7));
+        Probe.due("functions", q.text(6, ahead), "[i?5- n n]");
+        Probe.due("X", q.text(6, blame), "Xf7+b");
+        Probe.due("functions then X", q.text(6, q.x.then(ahead, blame)), "Xf7+b");
+        Probe r = new Probe();
+        int number = cast(r, "int", "int", 1);
+        int wrong = r.x.then(cast(r, "int", "?", 2), cast(r, "?", "(? > ?)", 3));
+        Probe.due("n then X", r.text(6, r.x.then(number, wrong)), "Xi3+f");
+    }
+
     private static void refused() {
         Probe p = new Probe();
         p.lay("int");
@@ -102,6 +125,7 @@ public final class ThenTest {
 
     public static void main(String[] args) {
         joined();
+        blameStays();
         refused();
         neverGrows();
         Probe.end();
