@@ -1,6 +1,50 @@
+import java.util.ArrayList;
+import java.util.List;
+
 /** Promise 15: clear. */
 public final class ClearTest {
+    /** All types of height 1 and 2, and functions of these. */
+    private static List<String> manyTypes() {
+        List<String> low = new ArrayList<>(List.of("?", "int", "bool"));
+        for (String from : List.of("?", "int", "bool")) {
+            for (String to : List.of("?", "int", "bool")) {
+                low.add("(" + from + " > " + to + ")");
+            }
+        }
+        List<String> all = new ArrayList<>(low);
+        for (String from : low) {
+            for (String to : low) {
+                all.add("(" + from + " > " + to + ")");
+            }
+        }
+        return all;
+    }
+
+    /** Of what went nothing is left: types that are laid behind it are alike if their texts are, and not else. */
+    private static void laidAgain() {
+        List<String> all = manyTypes();
+        for (int start = 0; start < all.size(); start++) {
+            Probe p = new Probe();
+            for (int round = 0; round < 4; round++) {
+                int step = 5 + 2 * round;
+                for (int k = 0; k < 12; k++) {
+                    p.lay(all.get((start + k * step) % all.size()));
+                }
+                Probe.due("twelve go", p.x.clear(1), 12);
+                for (int k = 0; k < 12; k++) {
+                    p.lay(all.get((start + k % 6 * (step + 1)) % all.size()));
+                }
+                for (int k = 0; k < 12; k++) {
+                    Probe.due("alike", p.x.pair(k, (k + 6) % 12, 4), 1);
+                    Probe.due("not alike", p.x.pair(k, (k + 1) % 12, 4), 0);
+                }
+                Probe.due("twelve go again", p.x.clear(1), 12);
+            }
+        }
+    }
+
     public static void main(String[] args) {
+        laidAgain();
         Probe p = new Probe();
         p.say("(as 1 ?)");
         for (int round = 0; round < 3; round++) {

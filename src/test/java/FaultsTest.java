@@ -242,6 +242,27 @@ public final class FaultsTest {
         due("(+ true 1) #1", 1);
     }
 
+    /** A second token that is wrong, behind one with which it could have gone on, changes nothing. */
+    private static void secondFault() {
+        due("(+ (+ 1 2 #3 4) 5)", 1);
+        due("(+ (+ 1 2 #3 4 ?", 1);
+        due("(as 1 (int #int int))", 1);
+        due("(as 1 (#> > >))", 1);
+        due("(as 1 (int > int #int) int)", 1);
+        due("(fun x (int > #) x ?)", 1);
+        due("(+ (rec f int (#) ?", 1);
+        due("(+ (rec f int #1) ?", 1);
+        due("(let #1 ? ? ?)", 1);
+        due("(let #abcdefg 10000 abcdefg 10000)", 2);
+        due("(+ (fun #abcdefg ? 1) 10000)", 2);
+        due("(if #x y z)", 5);
+        due("(let x ? #x y)", 5);
+        due("(+ #10000 10000)", 3);
+        due("(as 1 (((((#(((((((((((((((((((((((", 7);
+        due(lets(12) + "(let a#?(let a? 10000 b) ?)", 4);
+        due(times("(+1", 20) + "#((((x", 6);
+    }
+
     public static void main(String[] args) {
         endOfText();
         wrongTokens();
@@ -255,6 +276,7 @@ public final class FaultsTest {
         twentyOpen();
         typesOfHeightSix();
         severalFaults();
+        secondFault();
         Probe.end();
     }
 }

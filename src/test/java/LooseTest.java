@@ -67,8 +67,30 @@ public final class LooseTest {
         }
     }
 
+    /** Told types and those of functions are alike again, whatever was loose between. */
+    private static void alikeAgain() {
+        String[] types = {"?", "int", "bool", "(? > ?)", "(? > int)", "(? > bool)", "(int > ?)", "(int > int)",
+            "(int > bool)", "(bool > ?)", "(bool > int)", "(bool > bool)"};
+        for (String a : types) {
+            for (String b : types) {
+                Probe p = new Probe();
+                String term = "(let f (" + a + " > int) (fun x " + a + " 1) "
+                    + "(let g " + b + " (as 1 ?) (fun y " + b + " (fun z " + a + " f))))";
+                int casts = b.equals("?") ? 1 : 2;
+                p.say(term);
+                Probe.due(term + ": casts", p.x.count(2), casts);
+                for (int i = 0; i < 6; i++) {
+                    p.x.loose(i, true);
+                    Probe.due(term + ": as told again, " + i, p.x.loose(i, false), casts);
+                }
+                Probe.due(term + ": its text", p.text(7, 0), term);
+            }
+        }
+    }
+
     public static void main(String[] args) {
         allTwelve();
+        alikeAgain();
         toAndFro();
         blameGoes();
         canNotBe();

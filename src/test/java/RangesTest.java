@@ -134,6 +134,38 @@ public final class RangesTest {
         }
     }
 
+    /** Where there is no such one, no what has an answer. */
+    private static void noSuchOneByAnyWhat() {
+        Probe p = large();
+        p.lay("?");
+        p.x.coerce(0, 0, 0);
+        int casts = p.x.count(2);
+        for (int what = -1; what < 10; what++) {
+            for (int off : new int[] {-1, -2, Integer.MIN_VALUE, Integer.MAX_VALUE}) {
+                noneBy(p, off, what);
+            }
+            Probe.due("node 59 " + what, p.x.node(59, what), NONE);
+            Probe.due("cast " + casts + " " + what, p.x.cast(casts, what), NONE);
+            Probe.due("tries 12 " + what, p.x.tries(12, what), NONE);
+            Probe.due("pair 1 0 " + what, p.x.pair(1, 0, what), NONE);
+            Probe.due("pair 0 1 " + what, p.x.pair(0, 1, what), NONE);
+            Probe.due("coercion 1 " + what, p.x.coercion(1, what), NONE);
+        }
+    }
+
+    private static void noneBy(Probe p, int off, int what) {
+        Probe.due("node " + off + " " + what, p.x.node(off, what), NONE);
+        Probe.due("cast " + off + " " + what, p.x.cast(off, what), NONE);
+        Probe.due("tries " + off + " " + what, p.x.tries(off, what), NONE);
+        Probe.due("pair " + off + " 0 " + what, p.x.pair(off, 0, what), NONE);
+        Probe.due("pair 0 " + off + " " + what, p.x.pair(0, off, what), NONE);
+        Probe.due("coercion " + off + " " + what, p.x.coercion(off, what), NONE);
+        Probe.due("text " + what + " " + off, p.x.text(what, off, 0), NONE);
+        Probe.due("trace " + off + " 0 " + what, p.x.trace(off, 0, what), NONE);
+        Probe.due("trace 0 " + off + " " + what, p.x.trace(0, off, what), NONE);
+        Probe.due("run " + off + " " + what, p.x.run(off, what), Integer.MIN_VALUE);
+    }
+
     private static void emptyOnes() {
         Probe p = new Probe();
         due("node of one", 0, 0, i -> p.x.node(i, 0));
@@ -162,6 +194,7 @@ public final class RangesTest {
         ofTypes();
         ofCoercions();
         bytesOfTexts();
+        noSuchOneByAnyWhat();
         emptyOnes();
         Probe.end();
     }

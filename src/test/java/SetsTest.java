@@ -51,8 +51,18 @@ public final class SetsTest {
         due("(- 0 1)", 1, 1, 0, 0, 1, 0, 0);
     }
 
+    /**
+     * Sets that are stopped ahead of those that end. A round takes 23 steps, 22 with the let loose; three rounds, 18
+     * steps around them and 15 of the ifs are 102 or 99; one more, where f itself is ?.
+     */
+    private static void stoppedAndEnding() {
+        String loop = "((rec f (? > ?) (fun n ? (if (= n 0) 0 (let m int n (f (- n 1)))))) 3)";
+        due("(if true ".repeat(5) + loop + " 0)".repeat(5), 8, 4, 0, 4, 1, 10, 12);
+    }
+
     public static void main(String[] args) {
         firstFour();
+        stoppedAndEnding();
         unlikeValues();
         due("5", 1, 1, 0, 0, 1, 0, 0);
         due("(let x int 1 (+ x 1))", 2, 2, 0, 0, 1, 0, 2);

@@ -43,6 +43,10 @@ public final class TypeTest {
         fault("(?>(?>(?>(?>(?>(?>?))))))", -7015);
         fault("(((((((((((((((((((((((((", -7005);
         fault("(((((", -1005);
+        fault("(int int int)", -1005);
+        fault("(> > >", -1001);
+        fault("(int > ) ?", -1007);
+        fault("((? ?) ?)", -1004);
     }
 
     private static void lengths() {
